@@ -81,6 +81,9 @@ public final class ChanceTests {
         due("100 to the 8", x.stays(0, 8, 1), 10000000000000000L);
         due("82 of 100, twice", x.stays(1, 2, 0), 1681);
         due("50 to the 2", x.stays(1, 2, 1), 2500);
+        x.move(0, 1);
+        due("95 of 100 at 1", x.stays(0, 1, 0), 19);
+        due("19 of 20", x.stays(0, 1, 1), 20);
         due("9 hours", x.stays(0, 9, 0), -1);
         due("-1 hours", x.stays(0, -1, 0), -1);
         due("no such pen", x.stays(2, 1, 0), -1);
@@ -136,6 +139,12 @@ public final class ChanceTests {
         x.way(2, 4, 1);
         due("3 is ahead", x.sink(0), 3);
         due("1 has 7 less", x.sink(1), 1);
+        x.way(5, 0, 9);
+        due("0 has 9 more, as 3", x.sink(0), 0);
+        due("5 has 9 less", x.sink(1), 5);
+        x.way(0, 5, 1);
+        due("0 has but 8 more", x.sink(0), 3);
+        due("5 has 8 less, 1 but 7", x.sink(1), 5);
         due("sink(2)", x.sink(2), -1);
         due("sink(-1)", x.sink(-1), -1);
     }

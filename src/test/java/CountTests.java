@@ -37,6 +37,8 @@ public final class CountTests {
         due("too many", ways(x, 20, 1, 1, 3, 0, 0, 0), 0);
         due("below 0", ways(x, 1, 3, 1, 1, 0, 0, -1), 0);
         due("sum wraps around", ways(x, 0, 3, 1, 1 << 30, 1 << 30, 1 << 30, 1 << 30), 0);
+        PensGo three = Checks.made("p000;p000;p000;w011;");
+        due("any one of three", ways(three, 1, 2, 1, 0, 0, 0, 0), 3);
         due("none told of none", ways(new PensGo(), 20, 0, 0, 0, 0, 0, 0), 1);
         due("one told of none", ways(new PensGo(), 20, 1, 0, 0, 0, 0, 0), 0);
         Checks.layRow(x, 2, 0, 3, 1, 0, 0, 0, 0);
@@ -148,6 +150,9 @@ public final class CountTests {
         due("worth of none", x.seeded(40, 7, 5, 1), 0);
         due("all are somewhere", x.seeded(40, -9, 0, 0) + x.seeded(40, -9, 1, 0), 3);
         due("they stay", x.pen(2, 2), 1);
+        PensGo held = Checks.made("p403;p404;p403;");
+        due("two at 3", held.seeded(40, 5, 3, 0), 2);
+        due("one at 4", held.seeded(40, 5, 4, 1), 9);
         due("0 hours", x.seeded(0, 1, 0, 0), -1);
         due("41 hours", x.seeded(41, 1, 0, 0), -1);
         due("no such place", x.seeded(1, 1, 6, 0), -1);

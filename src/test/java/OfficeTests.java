@@ -158,6 +158,10 @@ public final class OfficeTests {
         x.way(0, 3, 9);
         x.set(0, 2, 1);
         due("the least of several", x.pen(0, 4), 1);
+        PensGo y = Checks.made("p004;w408;w439;p104;");
+        due("from 4 to 3", y.pen(0, 4), 3);
+        due("83 stay at 4", y.pen(0, 5), 83);
+        due("66 of GOOD ones", y.pen(1, 5), 66);
         due("pen(-1, 0)", x.pen(-1, 0), -1);
         due("pen(8, 0)", x.pen(8, 0), -1);
         due("pen(0, 6)", x.pen(0, 6), -1);
