@@ -26,6 +26,7 @@ public final class CountEdgeTests {
         seededOnTheEdges();
         seededWrapsAround();
         seededEachPenByNumbers();
+        seededHourByHour();
         seededFromWhereItIsInMind();
         judgeNoneAndAHundred();
         judgeSkipsTheLeast();
@@ -333,6 +334,22 @@ public final class CountEdgeTests {
             due("worth at 1, seed " + z, x.seeded(1, z, 1, 1), worth);
             due("worth at 0, seed " + z, x.seeded(1, z, 0, 1), 22 - worth);
             due("how many at 1, seed " + z, x.seeded(1, z, 1, 0), many);
+        }
+    }
+
+    /** Each HOUR each PEN: of four numbers the first PEN has the 1st and 3rd, the other the rest. */
+    private static void seededHourByHour() {
+        PensGo x = Checks.made("p000;p190;w019;");
+        for (int z = -60; z <= 60; z++) {
+            int[] drawn = new int[4];
+            int next = z;
+            for (int i = 0; i < 4; i++) {
+                next = nextOf(next);
+                drawn[i] = number(next);
+            }
+            int worth = (drawn[0] >= 91 || drawn[2] >= 91 ? 2 : 0)
+                + (drawn[1] >= 82 || drawn[3] >= 82 ? 20 : 0);
+            due("worth at 1 behind two hours, seed " + z, x.seeded(2, z, 1, 1), worth);
         }
     }
 

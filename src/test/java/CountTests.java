@@ -1,4 +1,4 @@
-/** Promises 20 to 27: ways of counts, collecting, signs, who keeps the last, lent, seeds, judged. */
+/** Promises 20 to 27: ways of counts, collecting, signs, the last pen, lent, seeds, judged. */
 public final class CountTests {
     private static final Checks CHECKS = new Checks();
 

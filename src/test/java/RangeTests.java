@@ -55,7 +55,9 @@ public final class RangeTests {
         CHECKS.due(call, got, want);
     }
 
-    private static void refusedIn(PensGo x, Map<String, Long> world, String call, Call c, long want) {
+    /** The call on x, which was as world tells, answers want and changes nothing. */
+    private static void refusedIn(PensGo x, Map<String, Long> world, String call, Call c,
+            long want) {
         due(call, c.on(x), want);
         String unlike = State.unlike(world, State.of(x)).toString();
         due(call + " is refused and changed " + unlike, unlike.equals("[]") ? 0 : 1, 0);

@@ -1,4 +1,4 @@
-/** The edges of promises 28 to 37: no image, images of none and ten, rows of 0 and 100, low bits. */
+/** The edges of promises 28 to 37: no image, images of none and ten, rows of 0 and 100, bits. */
 public final class ShelfEdgeTests {
     private static final Checks CHECKS = new Checks();
 

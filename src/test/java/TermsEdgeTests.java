@@ -28,6 +28,7 @@ public final class TermsEdgeTests {
         hoursUpTo999();
         allPensGoAtOnce();
         movesToTheEnds();
+        the512thCall();
         CHECKS.end();
     }
 
@@ -401,5 +402,17 @@ public final class TermsEdgeTests {
         due("to where it is", x.move(9, 0), 0);
         due("to where it is, again", x.move(9, 0), 0);
         due("the last is there", x.pen(9, 2), 0);
+    }
+
+    private static void the512thCall() {
+        PensGo x = new PensGo();
+        x.keep(0, 1, 1, 9);
+        due("comes", x.comes(0, 0), 0);
+        for (int call = 3; call <= 511; call++) {
+            int to = call % 6;
+            int from = (call + 5) % 6;
+            due("moved to and fro", x.move(0, to), call == 3 ? 0 : from);
+        }
+        due("the 512th call", x.pen(0, 2), 511 % 6);
     }
 }

@@ -26,6 +26,7 @@ public final class TextEdgeTests {
         kind1AheadOfKind2();
         eachOnWhatThoseAheadMade();
         withAFaultNothingComes();
+        behindAFaultTheNextTextStartsAfresh();
         theRowStays();
         CHECKS.end();
     }
@@ -297,6 +298,23 @@ public final class TextEdgeTests {
         reads("p000;w019;", "p011;w029;s03;k04;g5;m01;h;u;u;u;", -2031);
         reads("p000;w019;", "p011;w029;s03;k04;g5;m01;h;u;u", -1030);
         reads("w019;", "h;h;w015;g00;", -2009);
+    }
+
+    private static void behindAFaultTheNextTextStartsAfresh() {
+        PensGo x = new PensGo();
+        due("a pen, two taken", Checks.read(x, "p000;w019;g9;h;u;u;"), -2017);
+        due("no pen to move", Checks.read(x, "m00;"), -2000);
+        due("a pen, too early an end", Checks.read(x, "p000;h"), -1006);
+        due("no pen to take", Checks.read(x, "u;"), -2000);
+        due("one comes", Checks.read(x, "p000;h;"), 2);
+        due("it is the first", x.count(0), 1);
+        due("its HOUR is the first", x.count(1), 1);
+        due("there is no WAY to go", x.pen(0, 2), 0);
+        due("PULL at first", x.set(0, 2, 5), 5);
+        due("a FAULT", Checks.read(x, "u;p111;p900;"), -2007);
+        due("the pen is there", x.move(0, 3), 0);
+        due("it goes on from where it was moved to", Checks.read(x, "w349;h;"), 2);
+        due("to 4", x.pen(0, 2), 4);
     }
 
     private static void theRowStays() {
