@@ -337,7 +337,7 @@ public final class CountEdgeTests {
         }
     }
 
-    /** Each HOUR each PEN: of four numbers the first PEN has the 1st and 3rd, the other the rest. */
+    /** Of four drawn numbers the first PEN has the 1st and the 3rd, the other one the rest. */
     private static void seededHourByHour() {
         PensGo x = Checks.made("p000;p190;w019;");
         for (int z = -60; z <= 60; z++) {
