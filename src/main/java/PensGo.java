@@ -770,8 +770,12 @@ public final class PensGo {
             this.home = figure % PLACES;
         }
 
-        /** DRAW to another place, plain being what a PEN has there. */
-        int drawnBy(int plain, int hold, int from, int to) {
+        boolean leaves(int place, int hold) {
+            return true;
+        }
+
+        /** DRAW to another place of one that leaves, plain being what a PEN has there. */
+        int drawnBy(int plain, int to) {
             return plain;
         }
 
@@ -804,7 +808,7 @@ public final class PensGo {
             super(kind, figure);
         }
 
-        int drawnBy(int plain, int hold, int from, int to) {
+        int drawnBy(int plain, int to) {
             return 2 * plain;
         }
 
@@ -822,7 +826,7 @@ public final class PensGo {
             super(kind, figure);
         }
 
-        int drawnBy(int plain, int hold, int from, int to) {
+        int drawnBy(int plain, int to) {
             return plain / 2;
         }
 
@@ -840,7 +844,7 @@ public final class PensGo {
             super(kind, figure);
         }
 
-        int drawnBy(int plain, int hold, int from, int to) {
+        int drawnBy(int plain, int to) {
             return Math.max(0, plain - figure);
         }
 
@@ -854,8 +858,8 @@ public final class PensGo {
             super(kind, figure);
         }
 
-        int drawnBy(int plain, int hold, int from, int to) {
-            return 0;
+        boolean leaves(int place, int hold) {
+            return false;
         }
 
         int value() {
@@ -872,8 +876,8 @@ public final class PensGo {
             super(kind, figure);
         }
 
-        int drawnBy(int plain, int hold, int from, int to) {
-            return super.drawnBy(plain, hold, from, to) + (to == home ? 10 : 0);
+        int drawnBy(int plain, int to) {
+            return super.drawnBy(plain, to) + (to == home ? 10 : 0);
         }
 
         int value() {
@@ -890,8 +894,8 @@ public final class PensGo {
             super(kind, figure);
         }
 
-        int drawnBy(int plain, int hold, int from, int to) {
-            return hold > 4 ? 0 : super.drawnBy(plain, hold, from, to);
+        boolean leaves(int place, int hold) {
+            return hold <= 4;
         }
 
         int value() {
@@ -912,8 +916,8 @@ public final class PensGo {
             super(kind, figure);
         }
 
-        int drawnBy(int plain, int hold, int from, int to) {
-            return from == home ? 0 : super.drawnBy(plain, hold, from, to);
+        boolean leaves(int place, int hold) {
+            return place != home;
         }
 
         int value() {
@@ -1126,7 +1130,7 @@ public final class PensGo {
                 return 0;
             }
             int plain = Math.max(0, ways[from * PLACES + to] - holds[from]);
-            return pen.drawnBy(plain, holds[from], from, to);
+            return pen.leaves(from, holds[from]) ? pen.drawnBy(plain, to) : 0;
         }
 
         int ruleFrom(Pen pen, int from) {

@@ -36,6 +36,15 @@ public final class FaceTests {
         CHECKS.end();
     }
 
+    /** The names of the calls, in the document's order. */
+    static String[] names() {
+        String[] names = new String[FACE.length];
+        for (int i = 0; i < FACE.length; i++) {
+            names[i] = FACE[i].substring(FACE[i].indexOf(' ') + 1, FACE[i].indexOf('('));
+        }
+        return names;
+    }
+
     private static void due(String what, boolean holds) {
         CHECKS.due(what, holds ? 1 : 0, 1);
     }
